@@ -656,16 +656,14 @@ public final class SmellInTheHouse {
                 case STEADY: return steady;
                 case DAILY: return minute % 10 == figure[source] ? steady : 0;
                 case WINDED: return wind == figure[source] % 4 ? steady : 0;
-                case DYING: return dying(steady, figure[source] + 1, minute);
+                case DYING:
+                    int peak = figure[source] + 1;
+                    int age = minute <= peak ? minute : Math.max(0, 2 * peak - minute);
+                    return peak > 0 ? steady * age / peak : 0;
                 case CARRIED: return steady;
                 case HIDDEN: return (steady + 1) / 2;
                 default: return 0;
             }
-        }
-
-        private static int dying(int steady, int peak, int minute) {
-            int age = minute <= peak ? minute : Math.max(0, 2 * peak - minute);
-            return peak > 0 ? steady * age / peak : 0;
         }
 
         int target(int source, int rooms) {
@@ -839,8 +837,9 @@ public final class SmellInTheHouse {
             int left = held[from];
             for (int to = 0; to < house.rooms && left > 0; to++) {
                 int way = pair(from, to);
-                if (to != from && house.shut[way] == 0 && way != shutPair && way != shutBack) {
-                    int moved = Math.min(left, house.flow[way] * held[from] / 10);
+                int tenths = house.flow[way];
+                if (tenths > 0 && house.shut[way] == 0 && way != shutPair && way != shutBack) {
+                    int moved = Math.min(left, tenths * held[from] / 10);
                     strength[to] += moved;
                     left -= moved;
                 }

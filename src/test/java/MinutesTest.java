@@ -151,6 +151,11 @@ public final class MinutesTest {
         // 0 has 9999 then, 3999 of it move.
         x.go(1);
         DUE.are("9999 at most", Due.strengths(x), 6000, 9999);
+        x = Due.house("o00;o10;f104;");
+        x.fill(0, 9000);
+        x.fill(1, 9000);
+        x.go(1);
+        DUE.are("9999 at most in the first", Due.strengths(x), 9999, 5400);
     }
 
     private static void givesGoIn() {
@@ -208,6 +213,8 @@ public final class MinutesTest {
         SmellInTheHouse x = Due.house("n3;s10000;");
         x.fill(0, 50);
         DUE.is("the others have none", x.strongest(0, 1), -9);
+        x.fill(2, 1);
+        DUE.is("one has 1", x.strongest(0, 1), 2);
         x.fill(1, 7);
         x.fill(2, 7);
         DUE.is("of two the least", x.strongest(0, 1), 1);
@@ -329,6 +336,9 @@ public final class MinutesTest {
         DUE.is("now", x.bestTape(1, 0), 0);
         x.fill(1, 100);
         DUE.is("what is there flows on", x.tape(1, 0, 1), 50);
+        SmellInTheHouse y = Due.house("n3;o00;o10;o20;f104;f204;s11050;s12020;");
+        DUE.is("28 untaped, 8, 20", y.bestTape(0, 1), 1);
+        DUE.is("taped where less comes from", y.tape(2, 0, 1), 20);
         DUE.is("no taped", x.tape(3, 0, 0), -1);
         DUE.is("no taped below", x.tape(-1, 0, 0), -1);
         DUE.is("no room", x.tape(0, 3, -1), -1);
@@ -350,6 +360,13 @@ public final class MinutesTest {
         DUE.is("the open one", x.bestDoor(0, 1), 2);
         x.door(0, 2, true);
         DUE.is("none is open", x.bestDoor(0, 1), -9);
+        x.door(0, 1, false);
+        x.door(0, 2, false);
+        x.bestDoor(0, 1);
+        DUE.is("in mind all is open again", x.behind(0, 1), 60);
+        DUE.is("and shut doors are no more so", x.behind(2, 1), 80);
+        x.door(0, 1, true);
+        x.door(0, 2, true);
         x.door(0, 2, false);
         DUE.is("now", x.bestDoor(0, 0), -9);
         DUE.is("it would be more", x.bestDoor(2, 1), -9);
@@ -377,6 +394,9 @@ public final class MinutesTest {
         DUE.is("a weak one, till most", x.mouse(1, 0), 10);
         // 2 times 4 by 10 is 0: an age of 4 in minute 16.
         DUE.is("a weak one, till none", x.mouse(1, 1), 16);
+        SmellInTheHouse weak = Due.house("s4091;");
+        DUE.is("strong 1, till most", weak.mouse(0, 0), 10);
+        DUE.is("strong 1, till none", weak.mouse(0, 1), 11);
         DUE.is("strong 0, till most", x.mouse(2, 0), 0);
         DUE.is("strong 0, till none", x.mouse(2, 1), 0);
         DUE.is("nobody", x.mouse(5, 2), -1);

@@ -139,8 +139,14 @@ public final class RoundsTest {
     private static void aloneAtTen() {
         SmellInTheHouse x = Due.house("o00;o10;s20010;s20920;s30215;s40550;f014;e0910;");
         Due.places(x, 0, 0);
-        x.go(7);
         DUE.is("daily of minute 0", x.alone(0, 0), 0);
+        x.go(7);
+        DUE.is("daily of minute 0, later", x.alone(0, 0), 0);
+        SmellInTheHouse y = Due.house("o09;s20950;e0905;");
+        y.row(0);
+        DUE.is("given in the tenth minute", y.alone(0, 0), 1);
+        y.go(7);
+        DUE.is("given in the tenth minute, later", y.alone(0, 0), 1);
         x.door(0, 1, true);
         DUE.is("with the door shut", x.alone(0, 0), 3);
         DUE.is("daily of minute 9", x.alone(0, 1), 3);
@@ -324,6 +330,10 @@ public final class RoundsTest {
         x.set(2, 0);
         DUE.is("all 0", x.likely(0, 3), -9);
         DUE.is("one for sure", x.likely(0, 2), 1);
+        x = Due.house("s10099;e0910;");
+        x.row(0);
+        x.set(2, 1);
+        DUE.is("hardly, but the likeliest", x.likely(0, 0), 0);
         x = Due.house("e0910;");
         DUE.is("none", x.likely(0, 0), -9);
         DUE.is("nobody", x.likely(1, -1), -1);
