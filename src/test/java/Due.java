@@ -1,6 +1,14 @@
+import java.io.IOException;
+import java.nio.file.Files;
+import java.nio.file.Path;
+
 /** What all tests share: houses told as texts, answers held against what is due. */
 final class Due {
+    private static final Path DOC = Path.of("../shared/DOC.md");
+
     private final String test;
+    private String sentence = "";
+    private String doc = "";
     private int wrong = 0;
     private int looked = 0;
 
@@ -12,7 +20,32 @@ final class Due {
         looked++;
         if (got != want) {
             wrong++;
-            System.out.println(test + ": " + what + " answered " + got + ", due is " + want);
+            System.out.println(test + ": " + sentence + what + " answered " + got + ", due is " + want);
+        }
+    }
+
+    /** The sentence of the document that the next answers are about; it must stand there so. */
+    void sentence(String words) {
+        sentence = "";
+        is("does the document tell \"" + words + "\"", doc().contains(words) ? 1 : 0, 1);
+        sentence = "\"" + words + "\": ";
+    }
+
+    private String doc() {
+        if (doc.isEmpty()) {
+            doc = document();
+        }
+        return doc;
+    }
+
+    /** The document in one line, with one space wherever there is some. */
+    static String document() {
+        try {
+            return Files.readString(DOC).replaceAll("\\s+", " ");
+        } catch (IOException e) {
+            System.out.println("there is no " + DOC + ": " + e);
+            System.exit(1);
+            return "";
         }
     }
 
