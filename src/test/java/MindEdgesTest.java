@@ -336,6 +336,13 @@ public final class MindEdgesTest {
         DUE.is("of two the least", x.bestTape(0, 1), 1);
         x = Due.house("n3;o00;o10;o20;f104;f204;s11009;s12010;");
         DUE.is("the greater helps more", x.bestTape(0, 1), 2);
+        x = Due.house("o00;o10;f104;s1003;s1109;");
+        DUE.are("3 by either, 6 by none", new long[] {x.tape(0, 0, 1), x.tape(1, 0, 1), x.behind(0, 1)}, 3, 3, 6);
+        DUE.is("of two the least, 0", x.bestTape(0, 1), 0);
+        x = Due.house("n3;o00;o10;o20;f014;f024;s1001;");
+        x.fill(0, 4);
+        DUE.are("more by the first", new long[] {x.tape(0, 0, 1), x.tape(1, 0, 1), x.tape(2, 0, 1)}, 2, 1, 1);
+        DUE.is("of those that do nothing the least", x.bestTape(0, 1), 1);
     }
 
     private static void bestDoorsLeast() {

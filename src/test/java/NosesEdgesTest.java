@@ -215,5 +215,15 @@ public final class NosesEdgesTest {
             DUE.is("outside, tired " + tired, x.outside(0), due);
             DUE.is("it stays so", x.nose(0, 3), due);
         }
+        SmellInTheHouse x = Due.house("e0910;e0910;");
+        x.fill(0, 10);
+        for (int i = 0; i < 9; i++) {
+            x.sniff(0, 0);
+        }
+        x.sniff(1, 0);
+        DUE.is("the one, though the other sniffed", x.outside(0), 6);
+        DUE.is("not the other", x.nose(1, 3), 1);
+        DUE.is("the other", x.outside(1), 0);
+        DUE.is("not the one", x.nose(0, 3), 6);
     }
 }

@@ -44,6 +44,8 @@ public final class PromiseEdgesTest {
         image();
         restore();
         count();
+        theImage();
+        allThatThereIs();
         refusals();
         DUE.end();
     }
@@ -725,7 +727,7 @@ public final class PromiseEdgesTest {
         DUE.is("all strengths", x.count(4), 49995);
     }
 
-    private static void refusals() {
+    private static void theImage() {
         DUE.sentence("THE IMAGE: all that there is, but it, letters, the ROW, REFUSALS.");
         SmellInTheHouse x = rich();
         x.room(9, 9);
@@ -751,7 +753,50 @@ public final class PromiseEdgesTest {
         DUE.is("its wind", x.set(0, 0), 0);
         DUE.is("a sayer more", Due.tell(x, "e4910;"), 1);
         DUE.is("nobody had said so then", x.sniff(0, 3), 0);
+    }
 
+    private static void allThatThereIs() {
+        DUE.sentence("all that there is");
+        SmellInTheHouse x = Due.house("n3;f012;o05;s10050;e0310;e4210;x12;");
+        x.go(4);
+        x.set(0, 3);
+        x.set(1, 7);
+        x.set(2, 8);
+        x.fill(2, 60);
+        x.sniff(0, 2);
+        x.sniff(1, 2);
+        x.sniff(1, 2);
+        DUE.is("taken", x.image(), 4);
+        Due.tell(x, "n4;f014;f303;o09;o38;s22220;e3110;x12;x03;");
+        x.go(3);
+        x.set(0, 1);
+        x.set(1, 2);
+        x.set(2, 3);
+        x.fill(2, 1);
+        x.sniff(0, 1);
+        x.outside(1);
+        x.sniff(1, 2);
+        DUE.is("nobody says so", x.sniff(0, 2), 0);
+        DUE.is("restored", x.restore(), 4);
+        long[] counts = {x.count(0), x.count(1), x.count(2), x.count(3), x.count(7)};
+        DUE.are("rooms, sources, noses, minute, doors", counts, 3, 1, 2, 4, 1);
+        // Of 50, 65, 70 and 71 go 2 tenths to 1 and 5 tenths out: 15, 20, 21 and 22 stay.
+        DUE.is("strength of 0", x.room(0, 0), 22);
+        DUE.is("strength of 2", x.room(2, 0), 60);
+        DUE.are("outs", new long[] {x.room(0, 1), x.room(2, 1)}, 5, 1);
+        DUE.are("flows", new long[] {x.flow(0, 1, 0), x.flow(1, 0, 0)}, 2, 0);
+        DUE.are("doors", new long[] {x.flow(1, 2, 1), x.flow(0, 1, 1)}, 1, 0);
+        DUE.are("tired", new long[] {x.nose(0, 3), x.nose(1, 3)}, 1, 2);
+        DUE.are("settings", new long[] {x.set(0, 0), x.set(1, 1), x.set(2, 0)}, 3, 7, 8);
+        DUE.is("the last one said so", x.sniff(1, 1), 1);
+        Due.tell(x, "n4;e0910;s1000;");
+        DUE.are("a room that comes again", new long[] {x.room(3, 0), x.room(3, 1), x.flow(3, 0, 0), x.flow(0, 3, 1)},
+                0, 1, 0, 0);
+        DUE.is("a nose that comes again", x.nose(2, 3), 0);
+        DUE.is("a source that comes again", x.source(1, 3), 0);
+    }
+
+    private static void refusals() {
         DUE.sentence("REFUSALS (the call answers the number, the first that fits in the order in which it tells them;"
                 + " nothing changes but how many there were):");
         REFUSED.is("the first that fits", y -> y.bestRound(9, 9, 9), -1, -1);

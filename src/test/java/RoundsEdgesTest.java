@@ -294,6 +294,9 @@ public final class RoundsEdgesTest {
         Due.tell(x, "s21199;");
         DUE.is("one thrice", x.bestRound(0, 3, 0), 111);
         DUE.is("one thrice, pairs", x.bestRound(0, 3, 1), 6);
+        x = Due.house("o09;o19;s21999;s20099;s7009;e0909;");
+        DUE.is("the greater one first", x.bestRound(0, 2, 0), 1);
+        DUE.is("the greater one first, pairs", x.bestRound(0, 2, 1), 3);
         x = Due.house("n5;s14099;s70099;e0910;");
         DUE.is("the last room", x.bestRound(0, 1, 0), 4);
         DUE.is("the last room, last", x.bestRound(0, 3, 0), 400);
