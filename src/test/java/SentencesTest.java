@@ -2,6 +2,7 @@ import java.io.IOException;
 import java.nio.file.Files;
 import java.nio.file.Path;
 import java.util.ArrayList;
+import java.util.Arrays;
 import java.util.List;
 import java.util.regex.Matcher;
 import java.util.regex.Pattern;
@@ -12,6 +13,10 @@ public final class SentencesTest {
     private static final Path TESTS = Path.of("src/test/java");
 
     public static void main(String[] args) throws IOException {
+        if (!Due.hasDocument()) {
+            System.out.println("SentencesTest: there is no document here, so its sentences are not looked at");
+            return;
+        }
         String doc = Due.document();
         doc = doc.substring(doc.indexOf("## Terms") + 8, doc.indexOf("## Not promised"));
         doc = doc.replace("```text", " ").replace("```", " ").replaceAll("## Promise \\d+: [\\w ]+? (?=`)", " ");
@@ -20,7 +25,7 @@ public final class SentencesTest {
         for (String sentence : sentences()) {
             sentences++;
             for (int at = doc.indexOf(sentence); at >= 0; at = doc.indexOf(sentence, at + 1)) {
-                java.util.Arrays.fill(told, at, at + sentence.length(), true);
+                Arrays.fill(told, at, at + sentence.length(), true);
             }
         }
         DUE.is("sentences are found", sentences > 100 ? 1 : 0, 1);
