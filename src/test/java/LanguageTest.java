@@ -30,6 +30,7 @@ public final class LanguageTest {
 
     public static void main(String[] args) throws IOException {
         face();
+        faceOfDocument();
         names();
         fields();
         String text = withoutComments(Files.readString(FILE));
@@ -55,6 +56,24 @@ public final class LanguageTest {
             }
         }
         holds("the face is as told: " + open, open.equals(new TreeSet<>(List.of(FACE))));
+    }
+
+    /** The document's own list, so that a changed one is noticed. */
+    private static void faceOfDocument() {
+        if (!Due.hasDocument()) {
+            return;
+        }
+        String doc = Due.document();
+        Matcher block = Pattern.compile("```java public final class SmellInTheHouse \\{ (.*?) \\} ```").matcher(doc);
+        holds("the document tells the face", block.find());
+        Set<String> open = new TreeSet<>();
+        for (String member : block.group(1).split(";")) {
+            String told = member.trim().replaceFirst("^public ", "").replaceAll("(int|boolean) \\w+(,|\\))", "$1$2");
+            open.add(told.replace(", ", ","));
+        }
+        Set<String> own = new TreeSet<>(List.of(FACE));
+        own.add("SmellInTheHouse()");
+        holds("the face is the document's: " + open, open.equals(own));
     }
 
     private static String told(Method m) {
